@@ -158,7 +158,7 @@ public final class FeedTower {
         App polling = appAt(app);
         polling.toldItems.clear();
         int toldAlready = 0;
-        for (int i = polling.changesSeen; i < changes.size(); i++) {
+        for (int i = Math.max(0, polling.changesSeen); i < changes.size(); i++) {
             Item item = changes.get(i);
             if (item.show == polling.show && !hasBit(toldAlready, item.number)) {
                 toldAlready = withBit(toldAlready, item.number);
@@ -185,11 +185,8 @@ public final class FeedTower {
         if (campaigns.size() >= MOST_CAMPAIGNS) {
             throw new IllegalStateException("there are too many campaigns");
         }
-        Campaign made = new Campaign(campaigns.size(), place, group, seconds);
-        made.from = from;
-        made.to = to;
-        made.many = many;
-        made.daily = daily;
+        Campaign made = new Campaign(place, group, seconds, from, to, many, daily);
+        made.number = campaigns.size();
         campaigns.add(made);
         return made.number;
     }
@@ -679,21 +676,24 @@ public final class FeedTower {
     }
 
     private static final class Campaign {
-        final int number;
         final int place;
         final int group;
         final int seconds;
-        int from = 0;
-        int to = 0;
-        int many = 0;
-        int daily = 0;
+        final int from;
+        final int to;
+        final int many;
+        final int daily;
+        int number = NONE;
         int adsPutIn = 0;
 
-        Campaign(int number, int place, int group, int seconds) {
-            this.number = number;
+        Campaign(int place, int group, int seconds, int from, int to, int many, int daily) {
             this.place = place;
             this.group = group;
             this.seconds = seconds;
+            this.from = from;
+            this.to = to;
+            this.many = many;
+            this.daily = daily;
         }
 
         int dueIn(int hour) {

@@ -24,7 +24,7 @@ public final class CampaignsTest {
     }
 
     private static void campaign() {
-        FeedTower tower = new FeedTower();
+        Taped tower = new Taped();
         Suite.is("the least of all", 0, tower.campaign(0, 0, 5, 0, 1, 1, 1));
         Suite.is("the most of all", 1, tower.campaign(2, 4, 60, 9998, 9999, 99, 3));
         tower.pass(100);
@@ -37,7 +37,7 @@ public final class CampaignsTest {
     }
 
     private static void campaignRefuses() {
-        FeedTower tower = new FeedTower();
+        Taped tower = new Taped();
         for (int far : Suite.FAR_OUT) {
             refused(tower, far, 2, 30, 0, 50, 10, 2);
             refused(tower, 1, far, 30, 0, 50, 10, 2);
@@ -63,13 +63,13 @@ public final class CampaignsTest {
         Suite.is("the first one", 0, tower.campaign(1, 2, 30, 0, 50, 10, 2));
     }
 
-    private static void refused(FeedTower tower, int place, int group, int seconds, int from, int to, int many, int daily) {
+    private static void refused(Taped tower, int place, int group, int seconds, int from, int to, int many, int daily) {
         Suite.refuses(tower, "campaign(" + place + ", " + group + ", " + seconds + ", " + from + ", " + to + ", " + many
                 + ", " + daily + ")", Suite.ARGUMENT, () -> tower.campaign(place, group, seconds, from, to, many, daily));
     }
 
     private static void due() {
-        FeedTower tower = new FeedTower();
+        Taped tower = new Taped();
         tower.campaign(0, 0, 5, 2, 9, 10, 1);
         tower.campaign(0, 0, 5, 0, 9999, 99, 1);
         int[] due = {0, 0, 1, 2, 4, 5, 7, 8, 10, 0, 0};
@@ -88,7 +88,7 @@ public final class CampaignsTest {
     }
 
     private static void askRefuses() {
-        FeedTower tower = new FeedTower();
+        Taped tower = new Taped();
         Suite.refuses(tower, "ask(0, 0) without an item", Suite.INDEX, () -> tower.ask(0, 0));
         tower.talk(10);
         tower.item(0, 5);
@@ -107,7 +107,7 @@ public final class CampaignsTest {
     }
 
     private static void sixtyDownloads() {
-        FeedTower tower = new FeedTower();
+        Taped tower = new Taped();
         tower.slot(0);
         tower.item(0, 0);
         tower.campaign(0, 0, 5, 0, 1, 99, 3);
@@ -121,7 +121,7 @@ public final class CampaignsTest {
     }
 
     private static void askTakesWhatIsNotCut() {
-        FeedTower tower = new FeedTower();
+        Taped tower = new Taped();
         tower.talk(10);
         tower.slot(0);
         tower.music(1, 30);
@@ -144,7 +144,7 @@ public final class CampaignsTest {
     }
 
     private static void adOfTheRightPlace() {
-        FeedTower tower = slots(2, 0, 1);
+        Taped tower = slots(2, 0, 1);
         tower.campaign(1, 0, 10, 0, 1, 5, 3);
         tower.campaign(0, 1, 20, 0, 1, 5, 3);
         tower.ask(0, 0);
@@ -153,7 +153,7 @@ public final class CampaignsTest {
     }
 
     private static void behindByTheMost() {
-        FeedTower tower = slots(0);
+        Taped tower = slots(0);
         tower.campaign(0, 0, 10, 0, 1, 5, 3);
         tower.campaign(0, 1, 20, 0, 1, 7, 3);
         tower.campaign(0, 2, 30, 0, 1, 6, 3);
@@ -168,7 +168,7 @@ public final class CampaignsTest {
     }
 
     private static void theLowestOfSeveral() {
-        FeedTower tower = slots(0, 0, 0, 0);
+        Taped tower = slots(0, 0, 0, 0);
         tower.campaign(0, 3, 10, 0, 1, 5, 3);
         tower.campaign(0, 2, 20, 0, 1, 5, 3);
         tower.campaign(0, 1, 30, 0, 1, 5, 3);
@@ -178,7 +178,7 @@ public final class CampaignsTest {
     }
 
     private static void onlyInItsHours() {
-        FeedTower tower = slots(0);
+        Taped tower = slots(0);
         tower.campaign(0, 0, 10, 2, 4, 9, 3);
         int[] ad = {-1, -1, 0, 0, -1};
         for (int hour = 0; hour < ad.length; hour++) {
@@ -190,7 +190,7 @@ public final class CampaignsTest {
     }
 
     private static void onlyBehindByOne() {
-        FeedTower tower = slots(0);
+        Taped tower = slots(0);
         tower.campaign(0, 0, 10, 0, 10, 5, 3);
         int[] ads = {-1, 0, -1, 0, -1, 0, -1, 0, -1, 0};
         for (int hour = 0; hour < ads.length; hour++) {
@@ -203,7 +203,7 @@ public final class CampaignsTest {
     }
 
     private static void rivals() {
-        FeedTower tower = slots(0, 1, 0, 1);
+        Taped tower = slots(0, 1, 0, 1);
         tower.campaign(0, 4, 10, 0, 1, 9, 3);
         tower.campaign(1, 4, 20, 0, 1, 9, 3);
         tower.campaign(1, 3, 30, 0, 1, 2, 3);
@@ -215,7 +215,7 @@ public final class CampaignsTest {
     }
 
     private static void dailyInADay() {
-        FeedTower tower = slots(0);
+        Taped tower = slots(0);
         tower.campaign(0, 0, 10, 0, 100, 99, 2);
         tower.pass(22);
         tower.ask(3, 0);
@@ -235,7 +235,7 @@ public final class CampaignsTest {
     }
 
     private static void dailyIsPerListener() {
-        FeedTower tower = slots(0);
+        Taped tower = slots(0);
         tower.talk(1);
         tower.slot(0);
         tower.item(2, 0);
@@ -254,7 +254,7 @@ public final class CampaignsTest {
     }
 
     private static void countsAtOnce() {
-        FeedTower tower = slots(0, 0, 0);
+        Taped tower = slots(0, 0, 0);
         tower.campaign(0, 0, 10, 0, 1, 1, 3);
         tower.campaign(0, 1, 10, 0, 1, 1, 3);
         tower.ask(0, 0);
@@ -266,7 +266,7 @@ public final class CampaignsTest {
     }
 
     private static void botsAreGivenAds() {
-        FeedTower tower = slots(0);
+        Taped tower = slots(0);
         tower.campaign(0, 0, 10, 0, 1, 9, 1);
         tower.bot(2, true);
         tower.ask(2, 0);
@@ -275,7 +275,7 @@ public final class CampaignsTest {
     }
 
     private static void adRefuses() {
-        FeedTower tower = slots(0, 1);
+        Taped tower = slots(0, 1);
         Suite.refuses(tower, "ad(0, 0) without a download", Suite.INDEX, () -> tower.ad(0, 0));
         tower.cut(0, 0);
         tower.ask(0, 0);
@@ -289,7 +289,7 @@ public final class CampaignsTest {
     }
 
     private static void ofCampaign() {
-        FeedTower tower = slots(0);
+        Taped tower = slots(0);
         Suite.refuses(tower, "ofCampaign(0, 0) without one", Suite.INDEX, () -> tower.ofCampaign(0, 0));
         tower.campaign(0, 0, 10, 0, 4, 8, 1);
         for (int far : Suite.FAR_OUT) {
@@ -307,7 +307,7 @@ public final class CampaignsTest {
     }
 
     private static void heard() {
-        FeedTower tower = new FeedTower();
+        Taped tower = new Taped();
         tower.talk(3);
         tower.slot(0);
         tower.talk(3);
@@ -337,8 +337,8 @@ public final class CampaignsTest {
     }
 
     /** A tower with one item, released, of slots alone. */
-    private static FeedTower slots(int... places) {
-        FeedTower tower = new FeedTower();
+    private static Taped slots(int... places) {
+        Taped tower = new Taped();
         for (int place : places) {
             tower.slot(place);
         }

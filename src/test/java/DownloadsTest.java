@@ -29,7 +29,7 @@ public final class DownloadsTest {
     }
 
     private static void load() {
-        FeedTower tower = talks(100);
+        Taped tower = talks(100);
         tower.ask(0, 0);
         tower.ask(0, 0);
         Suite.is("load(0, 10, 20)", 10, tower.load(0, 10, 20));
@@ -50,7 +50,7 @@ public final class DownloadsTest {
     }
 
     private static void loadRefuses() {
-        FeedTower tower = talks(10);
+        Taped tower = talks(10);
         Suite.refuses(tower, "load(0, 0, 0) without a download", Suite.INDEX, () -> tower.load(0, 0, 0));
         tower.ask(0, 0);
         for (int far : Suite.FAR_OUT) {
@@ -69,7 +69,7 @@ public final class DownloadsTest {
     }
 
     private static void twoHundredRanges() {
-        FeedTower tower = talks(300);
+        Taped tower = talks(300);
         tower.ask(0, 0);
         tower.ask(1, 0);
         for (int i = 0; i < 199; i++) {
@@ -85,7 +85,7 @@ public final class DownloadsTest {
     }
 
     private static void loadOfNoSeconds() {
-        FeedTower tower = new FeedTower();
+        Taped tower = new Taped();
         tower.slot(0);
         tower.item(0, 0);
         tower.ask(0, 0);
@@ -95,7 +95,7 @@ public final class DownloadsTest {
     }
 
     private static void loadedAnew() {
-        FeedTower tower = talks(500);
+        Taped tower = talks(500);
         Suite.refuses(tower, "loadedAnew(0) without one", Suite.INDEX, () -> tower.loadedAnew(0));
         tower.ask(0, 0);
         tower.ask(0, 0);
@@ -120,7 +120,7 @@ public final class DownloadsTest {
     }
 
     private static void bot() {
-        FeedTower tower = talks(70);
+        Taped tower = talks(70);
         for (int far : Suite.FAR_OUT) {
             Suite.refusesTest(tower, "bot(" + far + ", true)", Suite.INDEX, () -> tower.bot(far, true));
         }
@@ -136,7 +136,7 @@ public final class DownloadsTest {
     }
 
     private static void ofDownload() {
-        FeedTower tower = new FeedTower();
+        Taped tower = new Taped();
         Suite.refuses(tower, "ofDownload(0, 0) without one", Suite.INDEX, () -> tower.ofDownload(0, 0));
         tower.talk(9);
         tower.item(3, 0);
@@ -162,7 +162,7 @@ public final class DownloadsTest {
     }
 
     private static void goesOnInAnother() {
-        FeedTower tower = talks(10, 20, 30);
+        Taped tower = talks(10, 20, 30);
         tower.talk(10);
         tower.talk(50);
         tower.item(0, 0);
@@ -186,7 +186,7 @@ public final class DownloadsTest {
     }
 
     private static void goesOnAheadOfWhatWasCut() {
-        FeedTower tower = talks(10, 20, 30, 40);
+        Taped tower = talks(10, 20, 30, 40);
         tower.ask(0, 0);
         tower.cut(0, 1);
         tower.ask(0, 0);
@@ -209,7 +209,7 @@ public final class DownloadsTest {
     }
 
     private static void goesOnPastSlots() {
-        FeedTower tower = new FeedTower();
+        Taped tower = new Taped();
         tower.slot(0);
         tower.music(1, 10);
         tower.slot(1);
@@ -237,7 +237,7 @@ public final class DownloadsTest {
     }
 
     private static void countsRefuses() {
-        FeedTower tower = talks(10);
+        Taped tower = talks(10);
         Suite.refusesTest(tower, "counts(0, 2) without one", Suite.INDEX, () -> tower.counts(0, 2));
         tower.ask(0, 0);
         for (int far : Suite.FAR_OUT) {
@@ -250,12 +250,12 @@ public final class DownloadsTest {
         Suite.refusesTest(tower, "counts(0, 2)", Suite.ARGUMENT, () -> tower.counts(0, 2));
         Suite.refuses(tower, "count(1, 0)", Suite.INDEX, () -> tower.count(1, 0));
         Suite.refuses(tower, "count(0, 2)", Suite.ARGUMENT, () -> tower.count(0, 2));
-        FeedTower empty = new FeedTower();
+        Taped empty = new Taped();
         Suite.refuses(empty, "count(0, 2) without an item", Suite.INDEX, () -> empty.count(0, 2));
     }
 
     private static void loose() {
-        FeedTower tower = talks(500);
+        Taped tower = talks(500);
         tower.ask(0, 0);
         tower.ask(0, 0);
         Suite.is("nothing is loaded", false, tower.counts(0, FeedTower.LOOSE));
@@ -269,7 +269,7 @@ public final class DownloadsTest {
     }
 
     private static void strictSeconds() {
-        FeedTower tower = talks(61);
+        Taped tower = talks(61);
         tower.talk(30);
         tower.item(0, 0);
         tower.talk(60);
@@ -289,10 +289,16 @@ public final class DownloadsTest {
         Suite.is("59 of 60", false, tower.counts(2, FeedTower.STRICT));
         tower.load(2, 0, 1);
         Suite.is("60 of 60", true, tower.counts(2, FeedTower.STRICT));
+        tower.talk(1);
+        tower.item(0, 0);
+        tower.ask(0, 3);
+        Suite.is("0 of 1", false, tower.counts(3, FeedTower.STRICT));
+        tower.load(3, 0, 1);
+        Suite.is("1 of 1", true, tower.counts(3, FeedTower.STRICT));
     }
 
     private static void strictHours() {
-        FeedTower tower = talks(10);
+        Taped tower = talks(10);
         tower.ask(0, 0);
         tower.ask(0, 0);
         tower.pass(23);
@@ -314,7 +320,7 @@ public final class DownloadsTest {
     }
 
     private static void strictChain() {
-        FeedTower tower = talks(10);
+        Taped tower = talks(10);
         for (int i = 0; i < 10; i++) {
             tower.ask(0, 0);
             tower.load(i, 0, 10);
@@ -329,7 +335,7 @@ public final class DownloadsTest {
     }
 
     private static void strictBots() {
-        FeedTower tower = talks(10);
+        Taped tower = talks(10);
         tower.ask(0, 0);
         tower.ask(1, 0);
         tower.load(0, 0, 10);
@@ -345,7 +351,7 @@ public final class DownloadsTest {
     }
 
     private static void strictListenersAndItems() {
-        FeedTower tower = talks(10);
+        Taped tower = talks(10);
         tower.talk(10);
         tower.item(0, 0);
         tower.ask(0, 0);
@@ -358,7 +364,7 @@ public final class DownloadsTest {
     }
 
     private static void count() {
-        FeedTower tower = talks(10);
+        Taped tower = talks(10);
         tower.talk(80);
         tower.item(0, 0);
         Suite.is("no download", 0, tower.count(0, FeedTower.LOOSE));
@@ -384,7 +390,7 @@ public final class DownloadsTest {
     }
 
     private static void owed() {
-        FeedTower tower = talks(10, 20, 30);
+        Taped tower = talks(10, 20, 30);
         tower.ask(0, 0);
         tower.ask(1, 0);
         tower.ask(1, 0);
@@ -403,7 +409,7 @@ public final class DownloadsTest {
     }
 
     private static void owedOnlyOfTalkAndMusic() {
-        FeedTower tower = new FeedTower();
+        Taped tower = new Taped();
         tower.talk(10);
         tower.slot(0);
         tower.music(2, 10);
@@ -424,7 +430,7 @@ public final class DownloadsTest {
     }
 
     private static void tell() {
-        FeedTower tower = talks(10, 20, 30);
+        Taped tower = talks(10, 20, 30);
         tower.ask(0, 0);
         tower.ask(1, 0);
         tower.load(0, 0, 60);
@@ -447,7 +453,7 @@ public final class DownloadsTest {
     }
 
     private static void tellAheadOfLoading() {
-        FeedTower tower = talks(10, 20);
+        Taped tower = talks(10, 20);
         tower.ask(0, 0);
         tower.ask(9, 0);
         tower.cut(0, 0);
@@ -459,7 +465,7 @@ public final class DownloadsTest {
     }
 
     private static void tellOfOnePart() {
-        FeedTower tower = talks(10, 20);
+        Taped tower = talks(10, 20);
         tower.talk(10);
         tower.talk(10);
         tower.item(0, 9);
@@ -473,7 +479,7 @@ public final class DownloadsTest {
     }
 
     private static void owedRefuses() {
-        FeedTower tower = new FeedTower();
+        Taped tower = new Taped();
         Suite.refusesTest(tower, "isOwed(0, 0) without an item", Suite.INDEX, () -> tower.isOwed(0, 0));
         Suite.refusesTest(tower, "tell(0, 0) without an item", Suite.INDEX, () -> tower.tell(0, 0));
         tower.talk(1);
@@ -493,8 +499,8 @@ public final class DownloadsTest {
     }
 
     /** A tower with one item, released, of talks alone. */
-    private static FeedTower talks(int... seconds) {
-        FeedTower tower = new FeedTower();
+    private static Taped talks(int... seconds) {
+        Taped tower = new Taped();
         for (int one : seconds) {
             tower.talk(one);
         }

@@ -17,7 +17,7 @@ public final class FeedsTest {
     }
 
     private static void app() {
-        FeedTower tower = new FeedTower();
+        Taped tower = new Taped();
         for (int far : Suite.FAR_OUT) {
             Suite.refuses(tower, "app(" + far + ")", Suite.INDEX, () -> tower.app(far));
         }
@@ -30,7 +30,7 @@ public final class FeedsTest {
     }
 
     private static void pollRefuses() {
-        FeedTower tower = new FeedTower();
+        Taped tower = new Taped();
         Suite.refuses(tower, "poll(0) without an app", Suite.INDEX, () -> tower.poll(0));
         tower.app(1);
         for (int far : Suite.FAR_OUT) {
@@ -41,7 +41,7 @@ public final class FeedsTest {
     }
 
     private static void told() {
-        FeedTower tower = new FeedTower();
+        Taped tower = new Taped();
         Suite.refuses(tower, "told(0, -1) without an app", Suite.INDEX, () -> tower.told(0, -1));
         tower.app(0);
         for (int far : Suite.FAR_OUT) {
@@ -67,7 +67,7 @@ public final class FeedsTest {
     }
 
     private static void firstPollTellsAll() {
-        FeedTower tower = new FeedTower();
+        Taped tower = new Taped();
         item(tower, 0, 0);
         item(tower, 1, 0);
         item(tower, 0, 0);
@@ -80,7 +80,7 @@ public final class FeedsTest {
     }
 
     private static void releasesComeByHourThenNumber() {
-        FeedTower tower = new FeedTower();
+        Taped tower = new Taped();
         tower.app(0);
         item(tower, 0, 9);
         item(tower, 0, 4);
@@ -97,7 +97,7 @@ public final class FeedsTest {
     }
 
     private static void orderOfTheFirstChangeSince() {
-        FeedTower tower = new FeedTower();
+        Taped tower = new Taped();
         tower.app(0);
         item(tower, 0, 0);
         item(tower, 0, 0);
@@ -116,7 +116,7 @@ public final class FeedsTest {
     }
 
     private static void eachChangeIsTold() {
-        FeedTower tower = new FeedTower();
+        Taped tower = new Taped();
         tower.app(2);
         item(tower, 2, 0);
         Suite.is("released at once", 1, tower.poll(0));
@@ -138,7 +138,7 @@ public final class FeedsTest {
     }
 
     private static void nothingOfOneThatIsNotReleased() {
-        FeedTower tower = new FeedTower();
+        Taped tower = new Taped();
         tower.app(0);
         item(tower, 0, 5);
         item(tower, 0, 6);
@@ -158,7 +158,7 @@ public final class FeedsTest {
     }
 
     private static void songsByNumbers() {
-        FeedTower tower = new FeedTower();
+        Taped tower = new Taped();
         tower.app(1);
         item(tower, 1, 3);
         item(tower, 1, 0);
@@ -177,7 +177,7 @@ public final class FeedsTest {
     }
 
     private static void songOfAWithdrawnOne() {
-        FeedTower tower = new FeedTower();
+        Taped tower = new Taped();
         tower.app(0);
         item(tower, 0, 0);
         tower.withdraw(0);
@@ -187,7 +187,7 @@ public final class FeedsTest {
     }
 
     private static void whatIsNoChange() {
-        FeedTower tower = new FeedTower();
+        Taped tower = new Taped();
         tower.app(0);
         item(tower, 0, 0);
         tower.poll(0);
@@ -204,7 +204,7 @@ public final class FeedsTest {
     }
 
     private static void appsPollForThemselves() {
-        FeedTower tower = new FeedTower();
+        Taped tower = new Taped();
         tower.app(0);
         tower.app(0);
         item(tower, 0, 0);
@@ -220,7 +220,7 @@ public final class FeedsTest {
     }
 
     /** An item of two talks, a music of song 7 and a slot of place 0. */
-    private static void item(FeedTower tower, int show, int hour) {
+    private static void item(Taped tower, int show, int hour) {
         tower.talk(10);
         tower.talk(20);
         tower.music(7, 30);

@@ -22,13 +22,13 @@ public final class ItemsTest {
     }
 
     private static void aNewTower() {
-        FeedTower tower = new FeedTower();
+        Taped tower = new Taped();
         Suite.is("the hour of a new tower", 0, tower.hour());
         Suite.is("a new tower", "hour 0", Suite.look(tower));
         for (int listener = 0; listener < 10; listener++) {
             Suite.is("bot of a new tower", false, tower.bot(listener, false));
         }
-        FeedTower other = new FeedTower();
+        Taped other = new Taped();
         other.pass(5);
         other.talk(1);
         other.item(0, 5);
@@ -36,7 +36,7 @@ public final class ItemsTest {
     }
 
     private static void talk() {
-        FeedTower tower = new FeedTower();
+        Taped tower = new Taped();
         Suite.refuses(tower, "talk(0)", Suite.ARGUMENT, () -> tower.talk(0));
         Suite.refuses(tower, "talk(1000)", Suite.ARGUMENT, () -> tower.talk(1000));
         for (int far : Suite.FAR_OUT) {
@@ -54,7 +54,7 @@ public final class ItemsTest {
     }
 
     private static void music() {
-        FeedTower tower = new FeedTower();
+        Taped tower = new Taped();
         Suite.refuses(tower, "music(10, 0)", Suite.INDEX, () -> tower.music(10, 0));
         Suite.refuses(tower, "music(-1, 301)", Suite.INDEX, () -> tower.music(-1, 301));
         for (int far : Suite.FAR_OUT) {
@@ -77,7 +77,7 @@ public final class ItemsTest {
     }
 
     private static void slot() {
-        FeedTower tower = new FeedTower();
+        Taped tower = new Taped();
         Suite.refuses(tower, "slot(3)", Suite.ARGUMENT, () -> tower.slot(3));
         for (int far : Suite.FAR_OUT) {
             Suite.refuses(tower, "slot(" + far + ")", Suite.ARGUMENT, () -> tower.slot(far));
@@ -93,7 +93,7 @@ public final class ItemsTest {
     }
 
     private static void item() {
-        FeedTower tower = new FeedTower();
+        Taped tower = new Taped();
         Suite.refuses(tower, "item without a part", Suite.STATE, () -> tower.item(0, 0));
         Suite.refuses(tower, "item of show 4 without a part", Suite.INDEX, () -> tower.item(4, -1));
         Suite.refuses(tower, "item at 10000 without a part", Suite.ARGUMENT, () -> tower.item(3, 10000));
@@ -117,7 +117,7 @@ public final class ItemsTest {
     }
 
     private static void itemCutsWhatWentOut() {
-        FeedTower tower = new FeedTower();
+        Taped tower = new Taped();
         tower.app(0);
         tower.music(3, 10);
         tower.music(4, 20);
@@ -132,7 +132,7 @@ public final class ItemsTest {
     }
 
     private static void itemOfADraftThatIsAllOut() {
-        FeedTower tower = new FeedTower();
+        Taped tower = new Taped();
         tower.music(3, 10);
         tower.music(5, 10);
         tower.songOut(3);
@@ -145,7 +145,7 @@ public final class ItemsTest {
     }
 
     private static void twentyFourItems() {
-        FeedTower tower = new FeedTower();
+        Taped tower = new Taped();
         for (int i = 0; i < 24; i++) {
             tower.talk(i + 1);
             Suite.is("item", i, tower.item(i % 4, 0));
@@ -159,7 +159,7 @@ public final class ItemsTest {
     }
 
     private static void cut() {
-        FeedTower tower = new FeedTower();
+        Taped tower = new Taped();
         tower.talk(10);
         tower.music(2, 20);
         tower.slot(0);
@@ -174,7 +174,7 @@ public final class ItemsTest {
     }
 
     private static void cutRefuses() {
-        FeedTower tower = new FeedTower();
+        Taped tower = new Taped();
         Suite.refuses(tower, "cut without an item", Suite.INDEX, () -> tower.cut(0, 0));
         tower.talk(10);
         tower.talk(20);
@@ -197,7 +197,7 @@ public final class ItemsTest {
     }
 
     private static void withdraw() {
-        FeedTower tower = new FeedTower();
+        Taped tower = new Taped();
         Suite.refuses(tower, "withdraw without an item", Suite.INDEX, () -> withdrawn(tower, 0));
         tower.talk(10);
         tower.item(0, 0);
@@ -219,13 +219,13 @@ public final class ItemsTest {
         Suite.refuses(tower, "withdraw anew as it is released", Suite.STATE, () -> withdrawn(tower, 1));
     }
 
-    private static int withdrawn(FeedTower tower, int item) {
+    private static int withdrawn(Taped tower, int item) {
         tower.withdraw(item);
         return 0;
     }
 
     private static void songOut() {
-        FeedTower tower = new FeedTower();
+        Taped tower = new Taped();
         for (int far : Suite.FAR_OUT) {
             Suite.refuses(tower, "songOut(" + far + ")", Suite.INDEX, () -> tower.songOut(far));
         }
@@ -254,7 +254,7 @@ public final class ItemsTest {
     }
 
     private static void songOutWithdraws() {
-        FeedTower tower = new FeedTower();
+        Taped tower = new Taped();
         tower.music(1, 10);
         tower.music(2, 10);
         tower.item(0, 0);
@@ -270,7 +270,7 @@ public final class ItemsTest {
     }
 
     private static void pass() {
-        FeedTower tower = new FeedTower();
+        Taped tower = new Taped();
         Suite.refuses(tower, "pass(0)", Suite.ARGUMENT, () -> tower.pass(0));
         Suite.refuses(tower, "pass(1000)", Suite.ARGUMENT, () -> tower.pass(1000));
         for (int far : Suite.FAR_OUT) {
@@ -293,7 +293,7 @@ public final class ItemsTest {
     }
 
     private static void hourIsReleased() {
-        FeedTower tower = new FeedTower();
+        Taped tower = new Taped();
         tower.talk(1);
         tower.item(0, 3);
         tower.talk(1);
@@ -309,7 +309,7 @@ public final class ItemsTest {
     }
 
     private static void ofItem() {
-        FeedTower tower = new FeedTower();
+        Taped tower = new Taped();
         Suite.refuses(tower, "ofItem(0, 0) without one", Suite.INDEX, () -> tower.ofItem(0, 0));
         tower.talk(10);
         tower.music(7, 20);
@@ -336,7 +336,7 @@ public final class ItemsTest {
     }
 
     private static void ofPart() {
-        FeedTower tower = new FeedTower();
+        Taped tower = new Taped();
         Suite.refuses(tower, "ofPart(0, 0, 0) without one", Suite.INDEX, () -> tower.ofPart(0, 0, 0));
         tower.talk(999);
         tower.music(9, 300);

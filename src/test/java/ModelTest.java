@@ -8,17 +8,18 @@ import java.util.Random;
 /** Long runs of calls, the same each time, on FeedTower and on PlainTower: every answer must be the same. */
 public final class ModelTest {
     private static final int RUNS = 600;
-    private static final int CALLS = 512;
+    private static final int CALLS = 500;
     private static final int[] ODD = {Integer.MIN_VALUE, -2, -1, Integer.MAX_VALUE, 1 << 30, 10000};
 
-    private static final Map<String, Method> OF_TOWER = methods(FeedTower.class);
+    private static final Map<String, Method> OF_TOWER = methods(Taped.class);
     private static final Map<String, Method> OF_PLAIN = methods(PlainTower.class);
 
     private final Random chance;
-    private final FeedTower tower = new FeedTower();
+    private final Taped tower = new Taped();
     private final PlainTower plain = new PlainTower();
     private final StringBuilder story = new StringBuilder();
     private final int kind;
+    private final int queries;
     private int items = 0;
     private int apps = 0;
     private int campaigns = 0;
@@ -28,6 +29,7 @@ public final class ModelTest {
     private ModelTest(int seed) {
         chance = new Random(seed);
         kind = seed % 6;
+        queries = 3 + seed % 4;
     }
 
     public static void main(String[] args) {
@@ -44,7 +46,7 @@ public final class ModelTest {
 
     private void play() {
         for (int i = 0; i < CALLS && same.equals("same"); i++) {
-            if (chance.nextInt(3) == 0) {
+            if (chance.nextInt(queries) == 0) {
                 query();
             } else {
                 change();
@@ -62,7 +64,7 @@ public final class ModelTest {
             {10, 8, 8, 14, 8, 2, 2, 10, 3, 6, 3, 12, 14, 3, 5},
             {14, 14, 6, 20, 14, 6, 3, 10, 5, 20, 0, 4, 4, 1, 3},
             {2, 2, 16, 6, 2, 1, 1, 8, 1, 1, 6, 40, 10, 2, 1},
-            {8, 4, 4, 6, 3, 1, 1, 2, 1, 1, 2, 14, 60, 3, 8},
+            {8, 4, 4, 6, 3, 1, 1, 2, 1, 1, 2, 14, 90, 3, 8},
             {8, 8, 4, 5, 4, 1, 1, 5, 1, 1, 1, 20, 30, 8, 10},
             {9, 9, 9, 9, 9, 1, 2, 9, 9, 9, 9, 9, 9, 9, 9},
         };
@@ -109,10 +111,10 @@ public final class ModelTest {
 
     private void campaign() {
         int from = Math.max(0, tower.hour() - 5 + chance.nextInt(10));
-        int to = from + 1 + chance.nextInt(40);
+        int to = from + 1 + chance.nextInt(chance.nextBoolean() ? 40 : 400);
         int group = number(chance.nextBoolean() ? 2 : 5);
         int seconds = chance.nextInt(20) == 0 ? among(4, 5, 60, 61) : 5 + chance.nextInt(8);
-        int many = chance.nextInt(20) == 0 ? among(0, 1, 99, 100) : 1 + chance.nextInt(30);
+        int many = chance.nextInt(20) == 0 ? among(0, 1, 99, 100) : 1 + chance.nextInt(99);
         int daily = chance.nextInt(20) == 0 ? among(0, 4) : 1 + chance.nextInt(3);
         if (chance.nextInt(20) == 0) {
             from = among(-1, 9998, 9999, from);
@@ -208,7 +210,7 @@ public final class ModelTest {
             return String.valueOf(method.invoke(on, args));
         } catch (InvocationTargetException e) {
             Throwable thrown = e.getCause();
-            boolean byItself = on instanceof FeedTower && !Suite.isThrownByTower((RuntimeException) thrown);
+            boolean byItself = on instanceof Taped && !Suite.isThrownByTower((RuntimeException) thrown);
             return "throws " + thrown.getClass().getName() + (byItself ? " by the machine" : "");
         } catch (IllegalAccessException e) {
             throw new IllegalStateException(e);

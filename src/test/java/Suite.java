@@ -36,7 +36,7 @@ final class Suite {
     }
 
     /** The call throws exactly this exception, by a throw of the class itself, and the tower shows no change. */
-    static void refuses(FeedTower tower, String what, Class<? extends RuntimeException> want, IntSupplier call) {
+    static void refuses(Taped tower, String what, Class<? extends RuntimeException> want, IntSupplier call) {
         String before = look(tower);
         RuntimeException thrown = null;
         try {
@@ -53,7 +53,7 @@ final class Suite {
         is("the tower after " + what, before, look(tower));
     }
 
-    static void refusesTest(FeedTower tower, String what, Class<? extends RuntimeException> want, BooleanSupplier call) {
+    static void refusesTest(Taped tower, String what, Class<? extends RuntimeException> want, BooleanSupplier call) {
         refuses(tower, what, want, () -> call.getAsBoolean() ? 1 : 0);
     }
 
@@ -70,7 +70,7 @@ final class Suite {
     }
 
     /** All that can be asked of a tower without a change. */
-    static String look(FeedTower tower) {
+    static String look(Taped tower) {
         StringBuilder all = new StringBuilder("hour " + tower.hour());
         for (int i = 0; i < sizeOf(at -> tower.ofItem(at, 0)); i++) {
             all.append("\nitem ").append(i).append(':').append(item(tower, i));
@@ -90,7 +90,7 @@ final class Suite {
         return all.toString();
     }
 
-    static String item(FeedTower tower, int item) {
+    static String item(Taped tower, int item) {
         StringBuilder text = new StringBuilder();
         for (int what = 0; what <= 7; what++) {
             text.append(' ').append(tower.ofItem(item, what));
@@ -101,13 +101,13 @@ final class Suite {
         return text.append(" counts ").append(tower.count(item, 0)).append(' ').append(tower.count(item, 1)).toString();
     }
 
-    static String part(FeedTower tower, int item, int part) {
+    static String part(Taped tower, int item, int part) {
         return " " + tower.ofPart(item, part, 0) + " " + tower.ofPart(item, part, 1)
                 + " " + tower.ofPart(item, part, 2) + " " + tower.ofPart(item, part, 3);
     }
 
     /** The items that an app was told as it polled last. */
-    static String told(FeedTower tower, int app) {
+    static String told(Taped tower, int app) {
         StringBuilder text = new StringBuilder();
         for (int at = 0; at < 30; at++) {
             int item = tower.told(app, at);
@@ -120,12 +120,12 @@ final class Suite {
         return text.toString();
     }
 
-    static String campaign(FeedTower tower, int campaign) {
+    static String campaign(Taped tower, int campaign) {
         return " " + tower.ofCampaign(campaign, 0) + " " + tower.ofCampaign(campaign, 1)
                 + " " + tower.ofCampaign(campaign, 2);
     }
 
-    static String download(FeedTower tower, int download) {
+    static String download(Taped tower, int download) {
         StringBuilder text = new StringBuilder();
         for (int what = 0; what <= 6; what++) {
             text.append(' ').append(tower.ofDownload(download, what));
@@ -135,7 +135,7 @@ final class Suite {
                 .toString();
     }
 
-    static String ads(FeedTower tower, int download) {
+    static String ads(Taped tower, int download) {
         StringBuilder text = new StringBuilder();
         for (int at = 0; at < tower.ofDownload(download, 5); at++) {
             text.append(' ').append(tower.ad(download, at));

@@ -10,6 +10,7 @@ final class Suite {
 
     private static int passed = 0;
     private static int failed = 0;
+    private static String words = "";
 
     private Suite() {
     }
@@ -31,13 +32,22 @@ final class Suite {
             passed++;
         } else {
             failed++;
-            System.out.println("WRONG: " + fault);
+            System.out.println("WRONG: " + words + fault);
         }
     }
 
-    /** The call throws exactly this exception, by a throw of the class itself, and the tower shows no change. */
+    /** What is told from here on is told of these words of the document. */
+    static void of(String ofWords) {
+        words = ofWords;
+    }
+
+    static int checks() {
+        return passed + failed;
+    }
+
+    /** The call throws exactly this exception, by a throw of the class itself, and it changes nothing. */
     static void refuses(Taped tower, String what, Class<? extends RuntimeException> want, IntSupplier call) {
-        String before = look(tower);
+        String before = Depths.of(tower);
         RuntimeException thrown = null;
         try {
             call.getAsInt();
@@ -50,7 +60,7 @@ final class Suite {
             tell(thrown.getClass() == want, what + " threw " + thrown + ", due is " + want.getName());
             tell(isThrownByTower(thrown), what + " was thrown by the machine or the library: " + thrown);
         }
-        is("the tower after " + what, before, look(tower));
+        is("the tower after " + what, before, Depths.of(tower));
     }
 
     static void refusesTest(Taped tower, String what, Class<? extends RuntimeException> want, BooleanSupplier call) {

@@ -13,6 +13,14 @@ final class Taped {
     private FeedTower tower = new FeedTower();
     private int calls = 0;
 
+    /** Another tower, of which the same was asked. */
+    Taped fork() {
+        Taped other = new Taped();
+        other.tape.addAll(tape);
+        other.playTape();
+        return other;
+    }
+
     private int change(ToIntFunction<FeedTower> call) {
         makeRoom();
         tape.add(call);
@@ -34,6 +42,10 @@ final class Taped {
             throw new AssertionError("a test changes one tower more than " + MOST_CALLS + " times");
         }
         tower = new FeedTower();
+        playTape();
+    }
+
+    private void playTape() {
         calls = tape.size();
         for (ToIntFunction<FeedTower> call : tape) {
             try {

@@ -95,6 +95,10 @@ final class CallEdges {
         index(tower, "bot", () -> tower.bot(-24, false) ? 1 : 0);
         index(tower, "tell", () -> tower.tell(0, 10) ? 1 : 0);
         index(tower, "tell", () -> tower.tell(2, 0) ? 1 : 0);
+        tower.withdraw(0);
+        tower.poll(0);
+        state(tower, "withdraw of one that is released", () -> withdraw(tower, 0));
+        state(tower, "cut of one that is released", () -> tower.cut(0, 1));
         Taped brimful = Towers.brimful();
         state(brimful, "talk", () -> brimful.talk(1));
         state(brimful, "music", () -> brimful.music(0, 1));
@@ -195,12 +199,14 @@ final class CallEdges {
         Sentences.hold(TERMS, "A method that takes a show, an ITEM, a PART, an APP, a CAMPAIGN, a listener, a DOWNLOAD or a song"
                 + " throws IndexOutOfBoundsException if there is no such one.", () -> {
             Edges.Call[] shows = {(tower, show) -> tower.item(show, 0), (tower, show) -> tower.app(show)};
-            Edges.Call[] songs = {(tower, song) -> song == 9 ? 0 : tower.music(song, 1), (tower, song) -> song == 9 ? 0 : tower.songOut(song)};
+            Edges.Call[] songs = {(tower, song) -> song == 9 ? 0 : tower.music(song, 1),
+                (tower, song) -> song == 9 ? 0 : tower.songOut(song)};
             Edges.Call[] listeners = {(tower, listener) -> tower.ask(listener, 0), (tower, listener) -> tower.bot(listener, true) ? 1 : 0,
                 (tower, listener) -> tower.tell(0, listener) ? 1 : 0, (tower, listener) -> tower.isOwed(0, listener) ? 1 : 0};
-            Edges.Call[] items = {(tower, item) -> tower.cut(item, 1), CallEdges::withdraw, (tower, item) -> item == 1 ? 0 : tower.ask(0, item),
-                (tower, item) -> tower.tell(item, 0) ? 1 : 0, (tower, item) -> tower.ofItem(item, 0), (tower, item) -> tower.ofPart(item, 0, 0),
-                (tower, item) -> tower.count(item, 0), (tower, item) -> tower.isOwed(item, 0) ? 1 : 0};
+            Edges.Call[] items = {(tower, item) -> tower.cut(item, 1), CallEdges::withdraw,
+                (tower, item) -> item == 1 ? 0 : tower.ask(0, item), (tower, item) -> tower.tell(item, 0) ? 1 : 0,
+                (tower, item) -> tower.ofItem(item, 0), (tower, item) -> tower.ofPart(item, 0, 0), (tower, item) -> tower.count(item, 0),
+                (tower, item) -> tower.isOwed(item, 0) ? 1 : 0};
             Edges.Call[] parts = {(tower, part) -> part == 0 ? 0 : tower.cut(0, part), (tower, part) -> tower.ofPart(0, part, 0)};
             Edges.Call[] ones = {(tower, app) -> tower.poll(app), (tower, app) -> tower.told(app, 0),
                 (tower, campaign) -> tower.ofCampaign(campaign, 0), (tower, download) -> tower.load(download, 0, 1),

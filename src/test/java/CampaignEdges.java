@@ -234,6 +234,13 @@ final class CampaignEdges {
             tower.load(2, 0, 11);
             tower.load(3, 1, 10);
             Suite.is("two of each", " 2 2", Edges.each((on, campaign) -> on.ofCampaign(campaign, 2), tower, 0, 1));
+            tower.pass(1);
+            tower.ask(4, 0);
+            Towers.addTalks(tower, 0, 1, 5);
+            tower.ask(5, 1);
+            tower.load(5, 0, 5);
+            Suite.is("none in an empty slot, nor in a download without one", " 2 2",
+                    Edges.each((on, campaign) -> on.ofCampaign(campaign, 2), tower, 0, 1));
         });
         Sentences.hold(OF_CAMPAIGN, "- `what`: 0 to 2", () ->
             Edges.answers("what", Towers::full, (tower, what) -> tower.ofCampaign(0, what), 0, 1, 2));
@@ -364,7 +371,8 @@ final class CampaignEdges {
             tower.pass(1);
             Suite.is("one hour behind", 0, tower.ofCampaign(0, 1));
         });
-        Sentences.hold(terms, "many times the hours from its first one to the present one, both with them, divided by all its hours", () -> {
+        Sentences.hold(terms, "many times the hours from its first one to the present one, both with them,"
+                + " divided by all its hours", () -> {
             Taped tower = Towers.at(10);
             tower.campaign(0, 0, 5, 10, 14, 8, 1);
             tower.campaign(0, 0, 5, 8, 14, 99, 1);

@@ -144,7 +144,7 @@ public final class CampaignsTest {
     }
 
     private static void adOfTheRightPlace() {
-        Taped tower = slots(2, 0, 1);
+        Taped tower = Towers.slots(2, 0, 1);
         tower.campaign(1, 0, 10, 0, 1, 5, 3);
         tower.campaign(0, 1, 20, 0, 1, 5, 3);
         tower.ask(0, 0);
@@ -153,7 +153,7 @@ public final class CampaignsTest {
     }
 
     private static void behindByTheMost() {
-        Taped tower = slots(0);
+        Taped tower = Towers.slots(0);
         tower.campaign(0, 0, 10, 0, 1, 5, 3);
         tower.campaign(0, 1, 20, 0, 1, 7, 3);
         tower.campaign(0, 2, 30, 0, 1, 6, 3);
@@ -168,7 +168,7 @@ public final class CampaignsTest {
     }
 
     private static void theLowestOfSeveral() {
-        Taped tower = slots(0, 0, 0, 0);
+        Taped tower = Towers.slots(0, 0, 0, 0);
         tower.campaign(0, 3, 10, 0, 1, 5, 3);
         tower.campaign(0, 2, 20, 0, 1, 5, 3);
         tower.campaign(0, 1, 30, 0, 1, 5, 3);
@@ -178,7 +178,7 @@ public final class CampaignsTest {
     }
 
     private static void onlyInItsHours() {
-        Taped tower = slots(0);
+        Taped tower = Towers.slots(0);
         tower.campaign(0, 0, 10, 2, 4, 9, 3);
         int[] ad = {-1, -1, 0, 0, -1};
         for (int hour = 0; hour < ad.length; hour++) {
@@ -190,7 +190,7 @@ public final class CampaignsTest {
     }
 
     private static void onlyBehindByOne() {
-        Taped tower = slots(0);
+        Taped tower = Towers.slots(0);
         tower.campaign(0, 0, 10, 0, 10, 5, 3);
         int[] ads = {-1, 0, -1, 0, -1, 0, -1, 0, -1, 0};
         for (int hour = 0; hour < ads.length; hour++) {
@@ -203,7 +203,7 @@ public final class CampaignsTest {
     }
 
     private static void rivals() {
-        Taped tower = slots(0, 1, 0, 1);
+        Taped tower = Towers.slots(0, 1, 0, 1);
         tower.campaign(0, 4, 10, 0, 1, 9, 3);
         tower.campaign(1, 4, 20, 0, 1, 9, 3);
         tower.campaign(1, 3, 30, 0, 1, 2, 3);
@@ -215,7 +215,7 @@ public final class CampaignsTest {
     }
 
     private static void dailyInADay() {
-        Taped tower = slots(0);
+        Taped tower = Towers.slots(0);
         tower.campaign(0, 0, 10, 0, 100, 99, 2);
         tower.pass(22);
         tower.ask(3, 0);
@@ -235,7 +235,7 @@ public final class CampaignsTest {
     }
 
     private static void dailyIsPerListener() {
-        Taped tower = slots(0);
+        Taped tower = Towers.slots(0);
         tower.talk(1);
         tower.slot(0);
         tower.item(2, 0);
@@ -254,7 +254,7 @@ public final class CampaignsTest {
     }
 
     private static void countsAtOnce() {
-        Taped tower = slots(0, 0, 0);
+        Taped tower = Towers.slots(0, 0, 0);
         tower.campaign(0, 0, 10, 0, 1, 1, 3);
         tower.campaign(0, 1, 10, 0, 1, 1, 3);
         tower.ask(0, 0);
@@ -266,7 +266,7 @@ public final class CampaignsTest {
     }
 
     private static void botsAreGivenAds() {
-        Taped tower = slots(0);
+        Taped tower = Towers.slots(0);
         tower.campaign(0, 0, 10, 0, 1, 9, 1);
         tower.bot(2, true);
         tower.ask(2, 0);
@@ -275,7 +275,7 @@ public final class CampaignsTest {
     }
 
     private static void adRefuses() {
-        Taped tower = slots(0, 1);
+        Taped tower = Towers.slots(0, 1);
         Suite.refuses(tower, "ad(0, 0) without a download", Suite.INDEX, () -> tower.ad(0, 0));
         tower.cut(0, 0);
         tower.ask(0, 0);
@@ -289,7 +289,7 @@ public final class CampaignsTest {
     }
 
     private static void ofCampaign() {
-        Taped tower = slots(0);
+        Taped tower = Towers.slots(0);
         Suite.refuses(tower, "ofCampaign(0, 0) without one", Suite.INDEX, () -> tower.ofCampaign(0, 0));
         tower.campaign(0, 0, 10, 0, 4, 8, 1);
         for (int far : Suite.FAR_OUT) {
@@ -334,15 +334,5 @@ public final class CampaignsTest {
         Suite.is("no bot now", " 2 9 2", Suite.campaign(tower, 0));
         tower.withdraw(0);
         Suite.is("whatever became of the item", " 2 9 2", Suite.campaign(tower, 0));
-    }
-
-    /** A tower with one item, released, of slots alone. */
-    private static Taped slots(int... places) {
-        Taped tower = new Taped();
-        for (int place : places) {
-            tower.slot(place);
-        }
-        tower.item(0, 0);
-        return tower;
     }
 }

@@ -73,7 +73,8 @@ final class DownloadEdges {
         Sentences.hold(LOAD, "Throws `IllegalArgumentException` if from or to is out of range", () -> {
             Taped tower = asked(10);
             int[][] ranges = {{-1, 1}, {0, 0}, {0, 11}, {9, 9}, {10, 10}, {10, 11}, {6, 5}, {-1, 10}, {-1, 11}, {0, -1}, {-2, -1},
-                {Integer.MIN_VALUE, Integer.MAX_VALUE}, {Integer.MAX_VALUE, Integer.MIN_VALUE}, {0, Integer.MIN_VALUE}, {Integer.MIN_VALUE, 1}};
+                {Integer.MIN_VALUE, Integer.MAX_VALUE}, {Integer.MAX_VALUE, Integer.MIN_VALUE}, {0, Integer.MIN_VALUE},
+                {Integer.MIN_VALUE, 1}};
             for (int[] range : ranges) {
                 Suite.refuses(tower, "from " + range[0] + " to " + range[1], Suite.ARGUMENT, () -> tower.load(0, range[0], range[1]));
             }
@@ -229,7 +230,8 @@ final class DownloadEdges {
     }
 
     private static void loadedAnew() {
-        Sentences.hold(LOADED_ANEW, "Returns how many seconds of a DOWNLOAD are LOADED, found second by second from all its ranges.", () -> {
+        Sentences.hold(LOADED_ANEW, "Returns how many seconds of a DOWNLOAD are LOADED,"
+                + " found second by second from all its ranges.", () -> {
             Taped tower = asked(new int[] {40}, 0, 0);
             Suite.is("no range", 0, tower.loadedAnew(0));
             boolean[] loaded = new boolean[40];
@@ -459,6 +461,13 @@ final class DownloadEdges {
         }
         Suite.is("each 12 hours, the last 24", " 1 0 1 0 1 0 1 1", Edges.each((on, download) -> counts(on, download, 1), chain, 0, 7));
         Suite.is("they are counted", 5, chain.count(0, 1));
+        Taped tens = Towers.talks(10);
+        for (int i = 0; i < 8; i++) {
+            tens.pass(i == 0 ? 7 : 10);
+            tens.ask(0, 0);
+            tens.load(i, 0, 10);
+        }
+        Suite.is("each 10 hours, whatever the days", " 1 0 0 1 0 0 1 0", Edges.each((on, download) -> counts(on, download, 1), tens, 0, 7));
     }
 
     private static void heardTerms() {
@@ -524,6 +533,13 @@ final class DownloadEdges {
             Suite.is("a lower part is none", " 16 16 10", goesOn(tower));
             tower.load(2, 10, 11);
             Suite.is("a greater one is", " 31 31 11", goesOn(tower));
+            Taped last = asked(new int[] {10, 20, 30, 40}, 0);
+            last.load(0, 30, 60);
+            last.cut(0, 2);
+            last.ask(0, 0);
+            Suite.is("behind all of the part ahead of it", " 60 30", goesOn(last));
+            last.load(0, 60, 61);
+            Suite.is("and in the part behind it", " 61 31", goesOn(last));
         });
         Sentences.hold(terms, "To go on in a DOWNLOAD of it is at the second behind the last one in it that is of a TALK or a MUSIC"
                 + " and not beyond the REACH, by the number of its PART, and in that one by the second in it", DownloadEdges::placeToGoOn);
@@ -622,7 +638,8 @@ final class DownloadEdges {
             tower.tell(0, 0);
             Suite.is("told of both", false, tower.isOwed(0, 0));
         });
-        Sentences.hold(terms, ": to tell a listener is to tell of all PARTS of the ITEM that are CUT by then, LOADED or not, for good.", () -> {
+        Sentences.hold(terms, ": to tell a listener is to tell of all PARTS of the ITEM that are CUT by then,"
+                + " LOADED or not, for good.", () -> {
             Taped tower = asked(new int[] {5, 5, 5, 5}, 0, 0);
             tower.load(0, 0, 1);
             tower.cut(0, 0);
@@ -639,6 +656,11 @@ final class DownloadEdges {
             tower.withdraw(0);
             Towers.passTo(tower, 9999);
             Suite.is("for good", false, tower.isOwed(0, 0));
+            Taped unowed = asked(new int[] {5, 5}, 0);
+            unowed.cut(0, 0);
+            Suite.is("as nothing is loaded", false, unowed.tell(0, 0));
+            unowed.load(0, 0, 5);
+            Suite.is("it was told all the same", false, unowed.isOwed(0, 0));
             Taped nobody = asked(new int[] {5, 5}, 0);
             nobody.cut(0, 0);
             nobody.tell(0, 7);

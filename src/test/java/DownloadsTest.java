@@ -29,7 +29,7 @@ public final class DownloadsTest {
     }
 
     private static void load() {
-        Taped tower = talks(100);
+        Taped tower = Towers.talks(100);
         tower.ask(0, 0);
         tower.ask(0, 0);
         Suite.is("load(0, 10, 20)", 10, tower.load(0, 10, 20));
@@ -50,7 +50,7 @@ public final class DownloadsTest {
     }
 
     private static void loadRefuses() {
-        Taped tower = talks(10);
+        Taped tower = Towers.talks(10);
         Suite.refuses(tower, "load(0, 0, 0) without a download", Suite.INDEX, () -> tower.load(0, 0, 0));
         tower.ask(0, 0);
         for (int far : Suite.FAR_OUT) {
@@ -69,7 +69,7 @@ public final class DownloadsTest {
     }
 
     private static void twoHundredRanges() {
-        Taped tower = talks(300);
+        Taped tower = Towers.talks(300);
         tower.ask(0, 0);
         tower.ask(1, 0);
         for (int i = 0; i < 199; i++) {
@@ -95,7 +95,7 @@ public final class DownloadsTest {
     }
 
     private static void loadedAnew() {
-        Taped tower = talks(500);
+        Taped tower = Towers.talks(500);
         Suite.refuses(tower, "loadedAnew(0) without one", Suite.INDEX, () -> tower.loadedAnew(0));
         tower.ask(0, 0);
         tower.ask(0, 0);
@@ -120,7 +120,7 @@ public final class DownloadsTest {
     }
 
     private static void bot() {
-        Taped tower = talks(70);
+        Taped tower = Towers.talks(70);
         for (int far : Suite.FAR_OUT) {
             Suite.refusesTest(tower, "bot(" + far + ", true)", Suite.INDEX, () -> tower.bot(far, true));
         }
@@ -162,7 +162,7 @@ public final class DownloadsTest {
     }
 
     private static void goesOnInAnother() {
-        Taped tower = talks(10, 20, 30);
+        Taped tower = Towers.talks(10, 20, 30);
         tower.talk(10);
         tower.talk(50);
         tower.item(0, 0);
@@ -186,7 +186,7 @@ public final class DownloadsTest {
     }
 
     private static void goesOnAheadOfWhatWasCut() {
-        Taped tower = talks(10, 20, 30, 40);
+        Taped tower = Towers.talks(10, 20, 30, 40);
         tower.ask(0, 0);
         tower.cut(0, 1);
         tower.ask(0, 0);
@@ -237,7 +237,7 @@ public final class DownloadsTest {
     }
 
     private static void countsRefuses() {
-        Taped tower = talks(10);
+        Taped tower = Towers.talks(10);
         Suite.refusesTest(tower, "counts(0, 2) without one", Suite.INDEX, () -> tower.counts(0, 2));
         tower.ask(0, 0);
         for (int far : Suite.FAR_OUT) {
@@ -255,7 +255,7 @@ public final class DownloadsTest {
     }
 
     private static void loose() {
-        Taped tower = talks(500);
+        Taped tower = Towers.talks(500);
         tower.ask(0, 0);
         tower.ask(0, 0);
         Suite.is("nothing is loaded", false, tower.counts(0, FeedTower.LOOSE));
@@ -269,7 +269,7 @@ public final class DownloadsTest {
     }
 
     private static void strictSeconds() {
-        Taped tower = talks(61);
+        Taped tower = Towers.talks(61);
         tower.talk(30);
         tower.item(0, 0);
         tower.talk(60);
@@ -298,7 +298,7 @@ public final class DownloadsTest {
     }
 
     private static void strictHours() {
-        Taped tower = talks(10);
+        Taped tower = Towers.talks(10);
         tower.ask(0, 0);
         tower.ask(0, 0);
         tower.pass(23);
@@ -320,7 +320,7 @@ public final class DownloadsTest {
     }
 
     private static void strictChain() {
-        Taped tower = talks(10);
+        Taped tower = Towers.talks(10);
         for (int i = 0; i < 10; i++) {
             tower.ask(0, 0);
             tower.load(i, 0, 10);
@@ -335,7 +335,7 @@ public final class DownloadsTest {
     }
 
     private static void strictBots() {
-        Taped tower = talks(10);
+        Taped tower = Towers.talks(10);
         tower.ask(0, 0);
         tower.ask(1, 0);
         tower.load(0, 0, 10);
@@ -351,7 +351,7 @@ public final class DownloadsTest {
     }
 
     private static void strictListenersAndItems() {
-        Taped tower = talks(10);
+        Taped tower = Towers.talks(10);
         tower.talk(10);
         tower.item(0, 0);
         tower.ask(0, 0);
@@ -364,7 +364,7 @@ public final class DownloadsTest {
     }
 
     private static void count() {
-        Taped tower = talks(10);
+        Taped tower = Towers.talks(10);
         tower.talk(80);
         tower.item(0, 0);
         Suite.is("no download", 0, tower.count(0, FeedTower.LOOSE));
@@ -390,7 +390,7 @@ public final class DownloadsTest {
     }
 
     private static void owed() {
-        Taped tower = talks(10, 20, 30);
+        Taped tower = Towers.talks(10, 20, 30);
         tower.ask(0, 0);
         tower.ask(1, 0);
         tower.ask(1, 0);
@@ -430,7 +430,7 @@ public final class DownloadsTest {
     }
 
     private static void tell() {
-        Taped tower = talks(10, 20, 30);
+        Taped tower = Towers.talks(10, 20, 30);
         tower.ask(0, 0);
         tower.ask(1, 0);
         tower.load(0, 0, 60);
@@ -453,7 +453,7 @@ public final class DownloadsTest {
     }
 
     private static void tellAheadOfLoading() {
-        Taped tower = talks(10, 20);
+        Taped tower = Towers.talks(10, 20);
         tower.ask(0, 0);
         tower.ask(9, 0);
         tower.cut(0, 0);
@@ -465,7 +465,7 @@ public final class DownloadsTest {
     }
 
     private static void tellOfOnePart() {
-        Taped tower = talks(10, 20);
+        Taped tower = Towers.talks(10, 20);
         tower.talk(10);
         tower.talk(10);
         tower.item(0, 9);
@@ -496,15 +496,5 @@ public final class DownloadsTest {
         Suite.refusesTest(tower, "tell(1, 0)", Suite.INDEX, () -> tower.tell(1, 0));
         Suite.is("isOwed(0, 9)", false, tower.isOwed(0, 9));
         Suite.is("tell(0, 9)", false, tower.tell(0, 9));
-    }
-
-    /** A tower with one item, released, of talks alone. */
-    private static Taped talks(int... seconds) {
-        Taped tower = new Taped();
-        for (int one : seconds) {
-            tower.talk(one);
-        }
-        tower.item(0, 0);
-        return tower;
     }
 }

@@ -275,7 +275,8 @@ final class ItemEdges {
         Sentences.hold(CUT, ", or PART of it", () -> {
             Edges.range("part", () -> Towers.items(2), 0, 1, Suite.INDEX, (tower, part) -> tower.cut(1, part));
             Edges.range("part", ItemEdges::itemOfTen, 0, 9, Suite.INDEX, (tower, part) -> tower.cut(0, part));
-            Edges.refuses("part of a shorter one", () -> shorterBehindLonger(), Suite.INDEX, (tower, part) -> tower.cut(1, part), 1, 2);
+            Edges.refuses("part of a shorter one", ItemEdges::shorterBehindLonger, Suite.INDEX,
+                    (tower, part) -> tower.cut(1, part), 1, 2);
         });
         Sentences.hold(CUT, "Throws `IllegalStateException` if it is CUT", () -> {
             Taped tower = itemOfTen();
@@ -524,7 +525,8 @@ final class ItemEdges {
     }
 
     private static void ofPart() {
-        Sentences.hold(OF_PART, "Tells of a PART: 0 TALK to SLOT, 1 its seconds, 0 for a SLOT, 2 its song, or its place, NONE for a TALK", () -> {
+        Sentences.hold(OF_PART, "Tells of a PART: 0 TALK to SLOT, 1 its seconds, 0 for a SLOT,"
+                + " 2 its song, or its place, NONE for a TALK", () -> {
             Taped tower = new Taped();
             tower.talk(1);
             tower.talk(999);
@@ -559,7 +561,8 @@ final class ItemEdges {
         Sentences.hold(OF_PART, ", or PART of it", () -> {
             Edges.range("part", () -> Towers.items(2), 0, 1, Suite.INDEX, (tower, part) -> tower.ofPart(1, part, 0));
             Edges.range("part", ItemEdges::itemOfTen, 0, 9, Suite.INDEX, (tower, part) -> tower.ofPart(0, part, 0));
-            Edges.refuses("part of a shorter one", () -> shorterBehindLonger(), Suite.INDEX, (tower, part) -> tower.ofPart(1, part, 0), 1, 2);
+            Edges.refuses("part of a shorter one", ItemEdges::shorterBehindLonger, Suite.INDEX,
+                    (tower, part) -> tower.ofPart(1, part, 0), 1, 2);
         });
         Sentences.hold(OF_PART, "Throws `IllegalArgumentException` if what is out of range", () ->
             Edges.range("what", Towers::full, 0, 3, Suite.ARGUMENT, (tower, what) -> tower.ofPart(0, 2, what)));

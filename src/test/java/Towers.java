@@ -68,7 +68,7 @@ final class Towers {
         return tower;
     }
 
-    /** A tower with something of everything: two items, an app, a campaign, a download with a range. */
+    /** A tower with something of everything: two items, an app that has polled, a campaign, a download with a range. */
     static Taped full() {
         Taped tower = new Taped();
         tower.talk(70);
@@ -77,7 +77,7 @@ final class Towers {
         tower.item(0, 0);
         tower.talk(5);
         tower.music(4, 6);
-        tower.item(1, 9);
+        tower.item(0, 9);
         tower.app(0);
         tower.campaign(0, 0, 10, 0, 10, 90, 2);
         tower.ask(0, 0);
@@ -86,6 +86,7 @@ final class Towers {
         tower.songOut(9);
         tower.slot(1);
         tower.bot(8, true);
+        tower.poll(0);
         return tower;
     }
 
@@ -110,6 +111,7 @@ final class Towers {
         for (int i = 1; i < 200; i++) {
             tower.load(i % 2, 0, 1);
         }
+        tower.poll(0);
         return tower;
     }
 }

@@ -621,6 +621,7 @@ final class CampaignEdges {
             tower.ask(4, 1);
             tower.ask(5, 1);
             Suite.is("an ad, but no two in a day", " 0 -1 0", Edges.each((on, download) -> on.ad(download, 0), tower, 0, 2));
+            Suite.is("it is put in as others are", 2, tower.ofCampaign(0, 0));
             tower.ask(4, 0);
             tower.load(3, 0, 1);
             tower.cut(0, 0);

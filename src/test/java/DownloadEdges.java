@@ -290,6 +290,8 @@ final class DownloadEdges {
                 tower.load(i, 0, 5);
             }
             Suite.is("all are", " 60 10", Edges.each((on, rule) -> on.count(0, rule), tower, 0, 1));
+            tower.withdraw(0);
+            Suite.is("also as it is withdrawn", " 60 10", Edges.each((on, rule) -> on.count(0, rule), tower, 0, 1));
             Suite.is("of another one", " 0 0", Edges.each((on, rule) -> on.count(1, rule), tower, 0, 1));
         });
         Sentences.hold(COUNT, "- `rule`: LOOSE or STRICT", () ->
@@ -370,10 +372,16 @@ final class DownloadEdges {
                 Suite.is("none is", false, tower.counts(0, 0));
                 tower.load(0, second, second + 1);
                 Suite.is("the second " + second, true, tower.counts(0, 0));
+                tower.bot(0, true);
+                Suite.is("also of a bot", true, tower.counts(0, 0));
             }
             Taped none = Towers.slots(0);
             none.ask(0, 0);
             Suite.is("there is none", false, none.counts(0, 0));
+            Taped ad = adBetweenTalks(5);
+            ad.load(0, 5, 6);
+            Suite.is("a second of an ad alone", " 1 0", Edges.each((on, download) -> counts(on, download, 0), ad, 0, 1));
+            Suite.is("it is of the item's count", 1, ad.count(0, 0));
         });
         Sentences.hold(terms, "By STRICT 1 it counts, if its listener is no bot now,", () -> {
             Taped tower = asked(60);
@@ -405,10 +413,24 @@ final class DownloadEdges {
             Suite.is("one of them anew", false, apart.counts(0, 1));
             apart.load(0, 199, 200);
             Suite.is("60 that are apart", true, apart.counts(0, 1));
+            Taped ad = adBetweenTalks(60);
+            ad.load(0, 3, 62);
+            Suite.is("59 of 66, all of an ad", false, ad.counts(0, 1));
+            ad.load(0, 62, 63);
+            Suite.is("60 of 66, all of an ad", true, ad.counts(0, 1));
+            ad.load(1, 0, 3);
+            ad.load(1, 63, 66);
+            Suite.is("all of the talks, 6 of 66", false, ad.counts(1, 1));
         });
         Sentences.hold(terms, "or all, if it has less,", () -> {
             Suite.is("57 to 59 of 59", " 0 0 1", Edges.each((tower, loaded) -> strictOf(59, loaded), null, 57, 59));
             Suite.is("0 to 2 of 2", " 0 0 1", Edges.each((tower, loaded) -> strictOf(2, loaded), null, 0, 2));
+            Taped ad = adBetweenTalks(5);
+            ad.load(0, 0, 3);
+            ad.load(0, 8, 11);
+            Suite.is("all but the ad", false, ad.counts(0, 1));
+            ad.load(0, 3, 8);
+            Suite.is("the ad with them", true, ad.counts(0, 1));
         });
         Sentences.hold(terms, "and one at least,", () -> {
             Suite.is("0 to 1 of 1", " 0 1", Edges.each((tower, loaded) -> strictOf(1, loaded), null, 0, 1));
@@ -485,6 +507,9 @@ final class DownloadEdges {
                 Suite.is("the last", 1, tower.ofCampaign(0, 2));
                 tower.load(1, 3, 4);
                 Suite.is("the first, of the other one", 2, tower.ofCampaign(0, 2));
+                tower.cut(0, 1);
+                tower.withdraw(0);
+                Suite.is("whatever became of the slot and the item", 2, tower.ofCampaign(0, 2));
             }
         });
         Sentences.hold(terms, "and the listener is no bot now.", () -> {
@@ -614,6 +639,15 @@ final class DownloadEdges {
         tower.cut(0, 3);
         tower.ask(0, 0);
         Suite.is("the music is cut: behind the talk", " 42 30 10", goesOn(tower));
+        Taped ad = adBetweenTalks(5);
+        ad.load(0, 8, 9);
+        ad.cut(0, 2);
+        ad.ask(0, 0);
+        Suite.is("the ad is not beyond the reach, but it is no talk", " 9 0 3", goesOn(ad));
+        Suite.is("the ad stands behind the talk", 8, ad.ofDownload(2, 3));
+        Taped unheard = adBetweenTalks(5);
+        unheard.load(0, 3, 8);
+        Suite.is("the talk ahead of an ad is not reached by the ad", " 0 0", goesOn(unheard));
         Taped cut = asked(new int[] {10, 20, 30}, 0);
         cut.cut(0, 0);
         cut.ask(0, 0);

@@ -1,17 +1,11 @@
-import java.io.IOException;
 import java.lang.reflect.Constructor;
 import java.lang.reflect.Field;
 import java.lang.reflect.Method;
 import java.lang.reflect.Modifier;
-import java.nio.charset.StandardCharsets;
-import java.nio.file.Files;
-import java.nio.file.Path;
 import java.util.Arrays;
 import java.util.TreeSet;
-import java.util.regex.Matcher;
-import java.util.regex.Pattern;
 
-/** The public face as the document has it, the constants, and what ../shared/LANGUAGE.md forbids outright. */
+/** The public face and the constants as the document has them, and no other members: rule 1 of ../shared/LANGUAGE.md. */
 public final class FaceTest {
     private static final String[] FACE = {
         "int talk(int) IllegalArgumentException IllegalStateException",
@@ -42,23 +36,11 @@ public final class FaceTest {
         "boolean isOwed(int,int) IndexOutOfBoundsException",
     };
 
-    /** Each with the rule that it breaks. */
-    private static final String[][] FORBIDDEN = {
-        {"->", "2"}, {"::", "2"}, {"\\blong\\b|\\bfloat\\b|\\bdouble\\b", "3, not needed here"},
-        {"^import (?!java\\.util\\.ArrayList;)", "4"}, {"\\bpackage\\b", "1"}, {"\\bString\\b", "4, not needed here"},
-        {"\\bSystem\\b|\\bThread\\b|\\bRandom\\b", "13"}, {"\\btry\\b|\\bcatch\\b|\\bfinally\\b", "6"},
-        {"\\bsynchronized\\b|\\bassert\\b|\\binstanceof\\b", "6"}, {"^\\s*static\\s*\\{", "5"},
-        {"\\bwhile\\b", "9, a for shows its end"}, {"\\[", "7, there are no arrays whose index could be wrong"},
-        {"\\bequals\\b|\\bhashCode\\b|\\btoString\\b", "6"}, {"Exact\\b", "4"}, {"\\bprotected\\b", "1"},
-        {"[^\\x00-\\x7f]", "4"},
-    };
-
-    public static void main(String[] args) throws IOException {
+    public static void main(String[] args) {
         theClass();
         theMethods();
         theConstants();
         noOtherMembers();
-        theSource();
         Suite.end("FaceTest");
     }
 
@@ -109,11 +91,9 @@ public final class FaceTest {
         TreeSet<String> names = new TreeSet<>();
         TreeSet<String> faceNames = new TreeSet<>();
         for (Field field : FeedTower.class.getDeclaredFields()) {
-            int modifiers = field.getModifiers();
-            if (!Modifier.isPrivate(modifiers)) {
+            if (!Modifier.isPrivate(field.getModifiers())) {
                 names.add(field.getName());
             }
-            Suite.is("static, then final: " + field.getName(), true, !Modifier.isStatic(modifiers) || Modifier.isFinal(modifiers));
         }
         Suite.is("fields that are not private", "[LOOSE, MUSIC, NONE, SLOT, STRICT, TALK]", names.toString());
         for (String line : FACE) {
@@ -126,24 +106,8 @@ public final class FaceTest {
         }
         for (Class<?> inside : FeedTower.class.getDeclaredClasses()) {
             int modifiers = inside.getModifiers();
-            Suite.is(inside.getName() + " is static, and not public", true,
-                    Modifier.isStatic(modifiers) && !Modifier.isPublic(modifiers) && !Modifier.isProtected(modifiers));
-        }
-    }
-
-    private static void theSource() throws IOException {
-        Path file = Path.of("src/main/java/FeedTower.java");
-        String source = Files.readString(file, StandardCharsets.ISO_8859_1);
-        String code = source.replaceAll("(?s)/\\*.*?\\*/", "").replaceAll("//[^\n]*", "").replaceAll("\"[^\"\n]*\"", "\"\"");
-        for (String[] forbidden : FORBIDDEN) {
-            Matcher found = Pattern.compile(forbidden[0], Pattern.MULTILINE).matcher(code);
-            Suite.tell(!found.find(), "the source holds " + forbidden[0] + ", rule " + forbidden[1]);
-        }
-        Matcher thrown = Pattern.compile("throw new (\\w+)\\(").matcher(code);
-        while (thrown.find()) {
-            boolean named = Arrays.asList("IndexOutOfBoundsException", "IllegalArgumentException", "IllegalStateException")
-                    .contains(thrown.group(1));
-            Suite.is("throws what the document names: " + thrown.group(1), true, named);
+            Suite.is(inside.getName() + " is private or package-visible", true,
+                    !Modifier.isPublic(modifiers) && !Modifier.isProtected(modifiers));
         }
     }
 }
